@@ -29,10 +29,16 @@ final class Check {
         try {
             tell(call + " answered " + made.answer() + ", due is " + want.getName());
         } catch (RuntimeException e) {
-            if (e.getClass() != want) {
-                tell(call + " threw " + e + ", due is " + want.getName());
+            if (e.getClass() != want || !ownThrow(e)) {
+                tell(call + " threw " + e + ", due is " + want.getName() + " by a throw of the class");
             }
         }
+    }
+
+    /** Whether the class threw it, and not the library that it calls. */
+    static boolean ownThrow(RuntimeException e) {
+        StackTraceElement[] trace = e.getStackTrace();
+        return trace.length > 0 && trace[0].getClassName().startsWith("PrintQueue");
     }
 
     void holds(String what, boolean held) {

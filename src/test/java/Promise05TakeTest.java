@@ -9,6 +9,7 @@ public final class Promise05TakeTest {
         likeness(check);
         likenessIsOfTheRank(check);
         likeNumberOfEachPrinter(check);
+        likeNumberBehindAChange(check);
         partsOfOneJob(check);
         heldAndEnded(check);
         check.end();
@@ -103,6 +104,20 @@ public final class Promise05TakeTest {
         check.due("printer 2 has a number of its own", 3, () -> q.take(2, 9));
         q.fault(2);
         check.due("the number is kept behind a fault", 1, () -> q.take(2, 9));
+    }
+
+    private static void likeNumberBehindAChange(Check check) {
+        PrintQueue q = queue();
+        q.like(1);
+        q.job(2, 1, 1, 5, 1);
+        q.job(2, 1, 1, 5, 9);
+        q.job(1, 1, 1, 5, 2);
+        q.job(1, 1, 1, 5, 3);
+        int[] wanted = {3, 1, 2, 4};
+        for (int want : wanted) {
+            check.due("one like one at most: take(1, 9)", want, () -> q.take(1, 9));
+            q.print(1, 1);
+        }
     }
 
     private static void partsOfOneJob(Check check) {
