@@ -1,4 +1,5 @@
 import java.util.ArrayList;
+import java.util.Arrays;
 import java.util.List;
 
 /**
@@ -28,7 +29,8 @@ public final class NothingChangesTest {
 
     /**
      * Printer 1 stands behind page 3 of a copy of 5, of both sides; printer 2 has taken a part that goes on
-     * with an even page; printer 3 has none and a LIKE number of 1; job 4 is done, 5 cancelled, 6 held, 7 later.
+     * with an even page; printer 3 has none and a LIKE number of 1; job 4 is done, 5 cancelled, 7 later; 4, 5
+     * and 6 are held.
      */
     private static final Scene AT_WORK = new Scene("at work", """
             printer(0, 2); printer(0, 2); printer(0, 2); ticket(0, 2, 0); ticket(1, 1, 1); like(2) = 3
@@ -36,17 +38,19 @@ public final class NothingChangesTest {
             job(1, 2, 2, 6, 0); job(2, 2, 2, 5, 20); job(1, 2, 2, 5, 3)
             take(1, 5) = 1; print(1, 3) = 3
             take(2, 5) = 2; print(2, 2) = 2; fault(2) = 2; split(2, 3, 2) = 1; take(2, 5) = 2
-            hold(2, true); take(3, 5) = 4; print(3, 1) = 1; hold(2, false); cancel(5) = 1; hold(6, true)
+            hold(2, true); take(3, 5) = 4; print(3, 1) = 1; hold(2, false); cancel(5) = 1
+            hold(4, true); hold(5, true); hold(6, true)
             """, 3, 2, 8, """
             take(1, 30) ! IllegalState; take(1, 5) ! IllegalState; take(2, MAX) ! IllegalState
             take(3, 4) ! IllegalArgument; take(3, -1) ! IllegalArgument; take(1, 4) ! IllegalArgument
-            take(3, MIN) ! IllegalArgument
+            take(2, 4) ! IllegalArgument; take(2, MIN) ! IllegalArgument; take(3, MIN) ! IllegalArgument
             print(1, -1) ! IllegalArgument; print(1, 50001) ! IllegalArgument; print(2, MIN) ! IllegalArgument
             print(2, MAX) ! IllegalArgument; print(3, -1) ! IllegalArgument
             job(1, 0, 1, 0, 0) ! IllegalArgument; job(1, 501, 1, 0, 0) ! IllegalArgument
             job(1, 1, 0, 0, 0) ! IllegalArgument; job(1, 1, 101, 0, 0) ! IllegalArgument
             job(1, 1, 1, -1, 0) ! IllegalArgument; job(1, 1, 1, 10, 0) ! IllegalArgument
-            job(1, 1, 1, 0, -1) ! IllegalArgument
+            job(1, 1, 1, 0, -1) ! IllegalArgument; job(1, 0, 1, 0, 30) ! IllegalArgument
+            job(3, 1, 1, 0, 30) ! NoSuchElement
             state(1, -1) ! IndexOutOfBounds; state(2, 5) ! IndexOutOfBounds
             doubled(2, -2) ! IndexOutOfBounds; doubled(2, 1) ! IndexOutOfBounds; doubled(1, 0) ! IndexOutOfBounds
             account(1, -1) ! IndexOutOfBounds; account(2, 4) ! IndexOutOfBounds
@@ -65,8 +69,10 @@ public final class NothingChangesTest {
 
     private static final Scene FULL = new Scene("all full", """
             8 x printer(0, 1)
-            20 x ticket(0, 1, 0)
-            60 x job(20, 2, 2, 0, 0)
+            18 x ticket(0, 1, 0)
+            ticket(1, 1, 0) = 19; ticket(0, 1, 0) = 20
+            59 x job(20, 2, 2, 0, 1)
+            job(19, 2, 2, 0, 0) = 60
             take(8, 1) = 1; print(8, 1) = 1; take(7, 1) = 2; print(7, 3) = 3; fault(7) = 1
             """, 8, 20, 60, """
             printer(0, 1) ! UnsupportedOperation; printer(7, 2) ! UnsupportedOperation
@@ -78,11 +84,12 @@ public final class NothingChangesTest {
             print(8, 0) = 0; print(7, 1) = 0; fault(7) = 0; split(2, 1, 1) = 0
             """);
 
-    /** What is asked, and then done, behind the call; each row begins anew behind the scene. */
+    /** What is asked or done behind the call; each row begins anew behind the scene. */
     private static final String[] LATER = {
         """
         state(1, 0); state(1, 1); state(1, 2); state(1, 3); state(1, 4); state(2, 0); state(2, 1); state(2, 2)
-        state(2, 3); state(2, 4); state(3, 0); state(3, 3); state(4, 0); state(4, 4); state(5, 0); state(6, 4)
+        state(2, 3); state(2, 4); state(3, 0); state(3, 3); state(4, 0); state(4, 4); state(5, 0); state(5, 4)
+        state(6, 4)
         state(7, 0); state(7, 4); state(8, 0); state(8, 1); state(60, 0)
         doubled(1, -1); doubled(2, -1); doubled(2, 0); doubled(2, 1); doubled(3, -1)
         reason(1); reason(2); reason(3); reason(4); reason(5); reason(6); reason(7); reason(8); reason(60)
@@ -103,7 +110,7 @@ public final class NothingChangesTest {
         """
         print(1, 1); account(1, 1); print(1, 1); account(1, 1); print(1, 50000); account(1, 1); print(1, 1)
         print(2, 1); account(1, 1); print(2, 1); account(1, 1); print(2, 50000); account(1, 1); print(2, 1)
-        print(8, 1); account(20, 1); print(8, 50000); account(20, 1)
+        print(8, 1); account(20, 1); print(8, 50000); account(20, 1); take(8, 5); account(20, 2)
         """,
         """
         fault(1); fault(2); fault(3); fault(7); fault(8); doubled(1, -1); doubled(1, 0); doubled(2, -1); doubled(2, 1)
@@ -150,8 +157,25 @@ public final class NothingChangesTest {
                 .replace("JOB", Integer.toString(scene.jobs + 1));
     }
 
+    /**
+     * Beside the rows above, some that show a printer's LIKE number: when jobs 1 and 2 are gone, those that
+     * are left are of one rank and two media, and which is taken depends on whether it is below the bound.
+     */
+    private static List<String> laterCalls() {
+        List<String> all = new ArrayList<>(Arrays.asList(LATER));
+        int[] printers = {1, 2, 3, 7, 8};
+        for (int printer : printers) {
+            for (int bound = 0; bound <= 4; bound++) {
+                all.add(("like(%1$d); fault(%2$d); cancel(1); cancel(2); take(%2$d, 5); account(1, 2)\n"
+                        + "account(2, 2); account(19, 2); account(20, 2)\n")
+                        .formatted(bound, printer));
+            }
+        }
+        return all;
+    }
+
     private static void changesNothing(Check check, String sentence, Scene scene, String calls) {
-        for (String later : LATER) {
+        for (String later : laterCalls()) {
             List<String> want = answers(scene, "", later);
             for (String call : Script.callsOf(calls)) {
                 Script.says(check, sentence + " (" + scene.name + ")", scene.calls, call);

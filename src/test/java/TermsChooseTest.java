@@ -179,6 +179,12 @@ public final class TermsChooseTest {
                 take(1, 0) = 4; account(1, 2) = 1; print(1, 1)
                 take(1, 0) = 5; account(3, 2) = 1; account(1, 2) = 1; account(2, 2) = 1; account(4, 2) = 0
                 """);
+        Script.says(check, sentence + " (not when there is none to take)", """
+                printer(5, 1); printer(5, 1); ticket(5, 1, 0); ticket(0, 1, 0); take(1, 0) = 0; take(2, 0) = 0
+                job(1, 1, 1, 0, 0); take(1, 0) = 1; account(1, 2) = 0; print(1, 1) = 1; take(1, 0) = 0
+                job(2, 1, 1, 0, 0); take(2, 0) = 2; account(2, 2) = 1
+                job(1, 1, 1, 0, 0); take(1, 0) = 3; account(1, 2) = 0
+                """);
         Script.says(check, sentence + " (by the taking, though no page came out)", MEDIA, """
                 printer(0, 1); job(2, 2, 2, 9, 0)
                 take(1, 0) = 1; account(2, 2) = 1; fault(1) = 1
@@ -245,6 +251,14 @@ public final class TermsChooseTest {
                 like(1) = 3; take(1, 1) = 0; take(1, 2) = 0; take(1, 3) = 0
                 job(2, 1, 1, 5, 0) = 1; job(1, 2, 2, 5, 1) = 2
                 take(1, 5) = 2
+                """);
+        Script.says(check, "the printer's LIKE number (1 stays 1 when there is none to take)", MEDIA, """
+                like(1) = 3; job(1, 1, 1, 5, 0) = 1; take(1, 0) = 1; print(1, 1) = 1; take(1, 0) = 0; take(1, 1) = 0
+                job(2, 1, 1, 5, 0) = 2; job(1, 1, 1, 5, 1) = 3
+                take(1, 1) = 2
+                """);
+        Script.says(check, "the printer's LIKE number (behind a bound that was set again)", MEDIA, jobs, """
+                take(1, 5) = 2; fault(1) = 1; like(1) = 1; take(1, 5) = 1
                 """);
         Script.says(check, "the printer's LIKE number (each has its own)", MEDIA, jobs, """
                 printer(0, 1) = 2
