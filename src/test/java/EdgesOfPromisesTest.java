@@ -10,6 +10,8 @@ public final class EdgesOfPromisesTest {
         doneOrCancelledAlready(check);
         whatAJobIs(check);
         whatCounts(check);
+        hundredParts(check);
+        doubledStays(check);
         noneWaits(check);
         heldThenLater(check);
         noPrinterFits(check);
@@ -145,6 +147,42 @@ public final class EdgesOfPromisesTest {
                 """);
     }
 
+    private static void hundredParts(Check check) {
+        String sentence = "Of a job: 0 what it is .. 3 how many parts it had (100 of them, one after the other)";
+        Script.says(check, sentence, TWO, """
+                job(1, 2, 100, 0, 0)
+                99 x split(1, 2, 1) = 1
+                take(1, 0) = 1; print(1, 2) = 2
+                """, "take(2, 0) = 1; print(2, 2) = 2\n".repeat(98), """
+                # the last one
+                state(1, 0) = 0; state(1, 1) = 198; state(1, 2) = 99; state(1, 3) = 100; reason(1) = 5
+                take(2, 0) = 1; state(1, 0) = 1; reason(1) = 0
+                print(2, 1) = 1; state(1, 1) = 199; state(1, 2) = 99; fault(2) = 1; doubled(1, 0) = 1001
+                state(1, 0) = 0; take(2, 0) = 1; print(2, 50000) = 2
+                state(1, 0) = 2; state(1, 1) = 200; state(1, 2) = 100; state(1, 3) = 100; cancel(1) = 0
+                """);
+    }
+
+    private static void doubledStays(Check check) {
+        String begun = """
+                job(1, 3, 2, 0, 0); take(1, 0) = 1; print(1, 2) = 2; fault(1) = 2
+                take(1, 0) = 1; print(1, 3) = 3; fault(1) = 1; doubled(1, -1) = 2
+                """;
+        Script.says(check, "The i-th doubled page of a job (that is done)", TWO, begun, """
+                take(1, 0) = 1; print(1, 50000) = 3; state(1, 0) = 2
+                doubled(1, -1) = 2; doubled(1, 0) = 1002; doubled(1, 1) = 2001; doubled(1, 2) ! IndexOutOfBounds
+                account(1, 3) = 2
+                """);
+        Script.says(check, "The i-th doubled page of a job (that is cancelled)", TWO, begun, """
+                cancel(1) = 1; state(1, 0) = 3
+                doubled(1, -1) = 2; doubled(1, 0) = 1002; doubled(1, 1) = 2001; doubled(1, 2) ! IndexOutOfBounds
+                account(1, 3) = 2; account(1, 0) = 5; account(1, 1) = 5
+                """);
+        Script.says(check, "The i-th doubled page of a job (that is held)", TWO, begun, """
+                hold(1, true) = 0; doubled(1, -1) = 2; doubled(1, 0) = 1002; doubled(1, 1) = 2001; account(1, 3) = 2
+                """);
+    }
+
     private static void noneWaits(Check check) {
         String sentence = "Why no part of a job is taken: 0 none waits";
         Script.says(check, sentence + " (before all the others)", """
@@ -214,6 +252,12 @@ public final class EdgesOfPromisesTest {
                 print(1, 1) = 1; reason(1) = 5; take(1, 0) = 1; reason(1) = 4; print(1, 1) = 1; reason(1) = 4
                 print(2, 1) = 1; reason(1) = 5
                 """);
+        Script.says(check, "5 one could take it (of another media, the LIKE number below the bound or not)", """
+                printer(0, 1); ticket(0, 1, 0); ticket(1, 1, 0); job(1, 1, 3, 5, 0); job(2, 1, 3, 5, 0)
+                reason(1) = 5; reason(2) = 5; like(1) = 3; take(1, 0) = 1; print(1, 1) = 1; fault(1) = 1
+                reason(1) = 5; reason(2) = 5; like(0) = 1; reason(1) = 5; reason(2) = 5
+                take(1, 0) = 1; reason(2) = 4; fault(1) = 1; reason(1) = 5; reason(2) = 5
+                """);
         Script.says(check, "5 one could take it (though it would choose another)", TWO, """
                 job(1, 1, 1, 0, 0); job(1, 1, 1, 9, 0); reason(1) = 5; take(1, 0) = 2; reason(1) = 5
                 """);
@@ -250,6 +294,12 @@ public final class EdgesOfPromisesTest {
                 """);
         Script.says(check, sentence + " (the last copy is begun: none is such)", TWO, """
                 job(1, 3, 2, 0, 0); take(1, 0) = 1; print(1, 5) = 5; fault(1) = 2; split(1, 2, 1) = 0
+                """);
+        Script.says(check, sentence + " (what other parts printed is not asked)", TWO, """
+                job(1, 2, 6, 0, 0); split(1, 2, 2) = 1; take(1, 0) = 1; take(2, 0) = 1
+                print(2, 3) = 3; fault(1) = 1
+                # one copy of the second part is whole, one begun; all four of the first are such
+                split(1, 1, 4) = 0; split(1, 1, 3) = 1; split(1, 1, 1) = 0
                 """);
         Script.says(check, sentence + " (copies of one page)", TWO, """
                 job(1, 1, 4, 0, 0); take(1, 0) = 1; print(1, 2) = 2; fault(1) = 1

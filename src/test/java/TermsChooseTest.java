@@ -12,9 +12,14 @@ public final class TermsChooseTest {
         likeOnes(check);
         atTheBound(check);
         greatestBound(check);
+        likeNumberFarBeyond(check);
         earliestTime(check);
+        earlierOfTwo(check);
         leastJobLeastPart(check);
+        nothingElseDecides(check);
+        partsElsewhere(check);
         changes(check);
+        changesByPartsForOne(check);
         likeNumberBecomesZero(check);
         likeNumberGrows(check);
         likeNumberStays(check);
@@ -126,6 +131,18 @@ public final class TermsChooseTest {
                 """);
     }
 
+    private static void likeNumberFarBeyond(Check check) {
+        int[] takings = {100, 101, 127, 128, 129, 200, 245};
+        for (int many : takings) {
+            Script.says(check, "else it grows by 1 (" + many + " is not below 100)", MEDIA, """
+                    like(100) = 3; job(1, 1, 1, 5, 9) = 1
+                    """, "take(1, 9) = 1; fault(1) = 1\n".repeat(many), """
+                    job(2, 1, 1, 5, 0) = 2
+                    take(1, 9) = 2
+                    """);
+        }
+    }
+
     private static void earliestTime(Check check) {
         String sentence = "of these the one of the earliest job's time";
         Script.says(check, sentence, MEDIA, """
@@ -142,6 +159,20 @@ public final class TermsChooseTest {
                 job(2, 1, 1, 5, 0); job(1, 1, 1, 5, 8); job(1, 1, 1, 5, 7)
                 take(1, 8) = 3; print(1, 1); take(1, 8) = 2; print(1, 1); take(1, 8) = 1
                 """);
+    }
+
+    /** Also those that only a long can hold, and whose difference no int can. */
+    private static void earlierOfTwo(Check check) {
+        long[] times = {0, 1, (1L << 31) - 1, 1L << 31, (1L << 31) + 1, (1L << 32) - 1, 1L << 32, (1L << 32) + 1,
+            1L << 53, (1L << 53) + 1, Long.MAX_VALUE - 1, Long.MAX_VALUE};
+        for (long first : times) {
+            for (long second : times) {
+                Script.says(check, "of these the one of the earliest job's time, of the least job", MEDIA, """
+                        job(1, 1, 1, 5, %d) = 1; job(1, 1, 1, 5, %d) = 2
+                        take(1, MAX) = %d
+                        """.formatted(first, second, second < first ? 2 : 1));
+            }
+        }
     }
 
     private static void leastJobLeastPart(Check check) {
@@ -165,6 +196,62 @@ public final class TermsChooseTest {
                 take(1, 5) = 3; print(1, 50000) = 6; take(1, 5) = 3; print(1, 50000) = 1
                 take(1, 5) = 1; print(1, 50000) = 2; take(1, 5) = 1; print(1, 50000) = 1
                 take(1, 5) = 2; print(1, 50000) = 4; take(1, 5) = 2; print(1, 50000) = 1
+                """);
+    }
+
+    /**
+     * What else there may be of job N: more or fewer pages and copies, another ticket of the same media,
+     * pages that came out, a doubled page, more parts, a hold that was.
+     */
+    private static final String[] JOBS_OF_ALL_KINDS = {
+        "job(1, 4, 3, RANK, TIME) = N",
+        "job(1, 500, 3, RANK, TIME) = N",
+        "job(1, 1, 3, RANK, TIME) = N",
+        "job(1, 4, 100, RANK, TIME) = N",
+        "job(1, 4, 1, RANK, TIME) = N",
+        "job(2, 4, 3, RANK, TIME) = N",
+        "job(1, 4, 3, RANK, TIME) = N; take(2, 9) = N; print(2, 4) = 4; fault(2) = 1",
+        "job(1, 4, 3, RANK, TIME) = N; take(2, 9) = N; print(2, 7) = 7; fault(2) = 3; doubled(N, -1) = 1",
+        "job(1, 4, 3, RANK, TIME) = N; split(N, 1, 1) = 1; state(N, 3) = 2",
+        "job(1, 4, 3, RANK, TIME) = N; split(N, 2, 1) = 1; split(N, 2, 1) = 1; state(N, 3) = 3",
+        "job(1, 4, 3, RANK, TIME) = N; hold(N, true) = 0; hold(N, false) = 1"
+    };
+
+    private static void nothingElseDecides(Check check) {
+        for (String one : JOBS_OF_ALL_KINDS) {
+            for (String two : JOBS_OF_ALL_KINDS) {
+                ofTwoJobs(check, kind(one, 1, 5, 3), kind(two, 2, 5, 3), 1);
+                ofTwoJobs(check, kind(one, 1, 5, 3), kind(two, 2, 6, 4), 2);
+                ofTwoJobs(check, kind(one, 1, 6, 4), kind(two, 2, 5, 3), 1);
+                ofTwoJobs(check, kind(one, 1, 5, 3), kind(two, 2, 5, 2), 2);
+                ofTwoJobs(check, kind(one, 1, 5, 3), kind(two, 2, 5, 4), 1);
+            }
+        }
+    }
+
+    private static String kind(String text, int number, int rank, int time) {
+        return text.replace("RANK", Integer.toString(rank)).replace("TIME", Integer.toString(time))
+                .replace("N", Integer.toString(number));
+    }
+
+    private static void ofTwoJobs(Check check, String one, String two, int due) {
+        String sentence = "the greatest rank .. of the earliest job's time, of the least job (by nothing else)";
+        String taken = "take(1, 9) = " + due;
+        Script.says(check, sentence, """
+                2 x printer(0, 2)
+                ticket(0, 1, 0) = 1; ticket(0, 2, 3) = 2
+                """, one, "hold(1, true) = 0", two, "hold(1, false) = 1", taken);
+    }
+
+    private static void partsElsewhere(Check check) {
+        Script.says(check, "A part may be TAKEN .. (though the job has others at printers)", """
+                4 x printer(0, 1)
+                ticket(0, 1, 0); job(1, 2, 9, 5, 0) = 1; job(1, 1, 1, 4, 0) = 2
+                split(1, 2, 2) = 1; split(1, 3, 3) = 1
+                take(1, 0) = 1; take(2, 0) = 1; fault(1) = 1
+                # the parts for any and for printer 3 wait, that for printer 2 is there
+                take(4, 0) = 1; take(3, 0) = 1; take(1, 0) = 2
+                print(4, 50000) = 8; print(3, 50000) = 6; print(2, 50000) = 4; state(1, 0) = 2
                 """);
     }
 
@@ -192,6 +279,18 @@ public final class TermsChooseTest {
                 take(1, 0) = 1; account(2, 2) = 1; fault(1) = 1
                 # at the other printer it is not
                 take(2, 0) = 1; account(2, 2) = 2; cancel(1) = 1; account(2, 2) = 2; account(2, 0) = 0
+                """);
+    }
+
+    private static void changesByPartsForOne(Check check) {
+        Script.says(check, "Taken with another media .. a CHANGE of the ticket (a part for one alone, and begun)", MEDIA, """
+                printer(0, 1) = 2
+                job(2, 3, 2, 5, 0) = 1; split(1, 2, 1) = 1; take(1, 0) = 1; print(1, 50000) = 3; account(2, 2) = 1
+                take(2, 0) = 1; account(2, 2) = 2; print(2, 2) = 2; fault(2) = 2
+                job(1, 1, 1, 9, 0) = 2; take(2, 0) = 2; account(1, 2) = 1; print(2, 1) = 1
+                take(2, 0) = 1; account(2, 2) = 3; fault(2) = 1; take(2, 0) = 1; account(2, 2) = 3
+                # media 1 is in again
+                print(2, 50000) = 3; job(4, 1, 1, 0, 0) = 3; take(2, 0) = 3; account(4, 2) = 0
                 """);
     }
 

@@ -6,6 +6,7 @@ public final class TermsPagesTest {
         Check check = new Check("terms, pages and faults");
         copyByCopy(check);
         lastPageOfAPart(check);
+        wholeCopies(check);
         copiesOfOnePage(check);
         done(check);
         waitsAgain(check);
@@ -68,6 +69,18 @@ public final class TermsPagesTest {
                 take(1, 0) = 1; print(1, 49999) = 49999; state(1, 0) = 1; state(1, 1) = 49999; state(1, 2) = 99
                 print(1, 50000) = 1; state(1, 0) = 2; state(1, 1) = 50000; state(1, 2) = 100
                 """);
+    }
+
+    private static void wholeCopies(Check check) {
+        int[] manyPages = {1, 2, 3, 255, 256, 499, 500};
+        for (int pages : manyPages) {
+            Script.says(check, "copy by copy (a whole one at a time, and one page fewer or more)", TWO, """
+                    job(1, %1$d, 5, 0, 0); take(1, 0) = 1
+                    print(1, %1$d) = %1$d; state(1, 2) = 1; print(1, %1$d) = %1$d; state(1, 2) = 2
+                    print(1, %2$d) = %2$d; state(1, 2) = 2; print(1, %3$d) = %3$d; state(1, 2) = 4
+                    print(1, %1$d) = %1$d; state(1, 2) = 5; state(1, 0) = 2; print(1, %1$d) = 0
+                    """.formatted(pages, pages - 1, pages + 1));
+        }
     }
 
     private static void copiesOfOnePage(Check check) {

@@ -11,6 +11,7 @@ public final class TermsSheetsTest {
         oddPages(check);
         firstBehindTheTaking(check);
         firstBehindAFault(check);
+        partForOneAlone(check);
         ofSidesOne(check);
         byTickets(check);
         cancelledOnes(check);
@@ -114,6 +115,17 @@ public final class TermsSheetsTest {
                 take(1, 0) = 1; take(2, 0) = 2; print(1, 1) = 1; account(1, 1) = 1
                 fault(2) = 1; take(2, 0) = 2
                 print(1, 1) = 1; account(1, 1) = 1
+                """);
+    }
+
+    private static void partForOneAlone(Check check) {
+        Script.says(check, FIRST + " (a part for one printer alone)", BOTH, """
+                job(1, 5, 3, 0, 0); split(1, 2, 2) = 1; take(1, 0) = 1; take(2, 0) = 1
+                print(2, 2) = 2; account(1, 1) = 1; fault(2) = 2; take(2, 0) = 1
+                print(2, 1) = 1; account(1, 1) = 2; print(2, 1) = 1; account(1, 1) = 3
+                # 4 5, 1 2 3 4 5
+                print(2, 50000) = 7; account(1, 1) = 7
+                print(1, 50000) = 5; account(1, 1) = 10; account(1, 0) = 16; state(1, 0) = 2
                 """);
     }
 
